@@ -23,12 +23,14 @@ final class Check {
         }
     }
 
+    /** The class throws without a text, the machine with one: so it is seen which of them threw. */
     static void thrown(String what, Class<?> want, Runnable call) {
         Class<?> got = null;
         try {
             call.run();
         } catch (RuntimeException e) {
             got = e.getClass();
+            due(what + " thrown by the class itself", e.getMessage() == null ? 1 : 0, 1);
         }
         if (got != want) {
             wrong++;

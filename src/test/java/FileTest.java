@@ -8,6 +8,7 @@ public final class FileTest {
         clearFaults();
         text();
         leads();
+        anyLeads();
         textFaults();
         programFaults();
         manySigns();
@@ -72,6 +73,7 @@ public final class FileTest {
         clearFault("/Encoding dup 1 /A\u007f put", 16);
         clearFault("/Encoding dup 1 /A puts", 19);
         clearFault("/Encoding dup 1 /A dup", 19);
+        clearFault("/Encoding dup 1 /A but", 19);
     }
 
     private static void text() {
@@ -109,6 +111,18 @@ public final class FileTest {
             + "/lenIV 0 /CharStrings /A " + Check.program(0, Check.n(0), 10, Check.n(1), 10, 14) + "end";
         Check.due("3 leads again", Check.read(y, Check.file(CLEAR, text)), 1);
         Check.due("3 run with leads again", y.run(0), 2);
+    }
+
+    /** What the leads are plain does not matter. */
+    private static void anyLeads() {
+        String program = "7 RD " + Check.latin(Check.sealed(Check.latin("/9 \377\11\11\16"), 0, 4330));
+        String text = "0end/CharStrings /A " + program + " end";
+        TypeOne x = new TypeOne();
+        for (byte b : Check.latin("eexec ")) {
+            x.add(b);
+        }
+        Check.due("3 leads that are not zeros", Check.read(x, Check.sealed(Check.latin(text), 0, 55665)), 1);
+        Check.due("3 the program", x.run(0), 2);
     }
 
     /** The fault's place is told within the text. */
@@ -165,6 +179,7 @@ public final class FileTest {
         }
         Check.due("3 64 signs", Check.readOf(CLEAR, text + "end"), 64);
         Check.due("3 64 signs, one again", Check.readOf(CLEAR, text + "/s3 " + Check.program(0) + "end"), 64);
+        Check.due("3 64 signs, the first again", Check.readOf(CLEAR, text + "/s0 " + Check.program(0) + "end"), 64);
         textFault(text + "/more 1 RD x end", text.length());
         textFault(text + "/more", text.length());
     }
@@ -206,13 +221,16 @@ public final class FileTest {
         int b = Check.sign(x, "Bee");
         x.encode(255, a);
         x.encode(10, b);
+        x.encode(100, b);
+        x.encode(99, a);
         x.encode(0, a);
         x.encode(5, a);
         x.encode(5, -1);
         Check.subroutine(x, 63, Check.times(255, 11));
+        Check.subroutine(x, 0, 14);
         Check.subroutine(x, 7, 11);
-        String clear = "%!\n/Encoding dup 0 /A put dup 10 /Bee put dup 255 /A put def eexec ";
-        String text = "/lenIV 4 /Subrs dup 7 " + Check.program(4, 11) + "dup 63 "
+        String clear = "%!\n/Encoding dup 0 /A put dup 10 /Bee put dup 99 /A put dup 100 /Bee put dup 255 /A put def eexec ";
+        String text = "/lenIV 4 /Subrs dup 0 " + Check.program(4, 14) + "dup 7 " + Check.program(4, 11) + "dup 63 "
             + Check.program(4, Check.times(255, 11)) + "/CharStrings /A " + Check.program(4, 9, 14) + "/Bee "
             + Check.program(4) + "end ";
         byte[] want = Check.file(clear, text);

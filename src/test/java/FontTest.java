@@ -130,12 +130,12 @@ public final class FontTest {
 
     private static void told() {
         TypeOne x = new TypeOne();
-        int s = Check.sign(x, "xyz", 14, 255);
+        int s = Check.sign(x, "xyz", 0, 255);
         Check.due("9 name's size", x.told(s, -1), 3);
         Check.due("9 program's size", x.told(s, -2), 2);
         Check.due("9 name 0", x.told(s, 0), 'x');
         Check.due("9 name 2", x.told(s, 2), 'z');
-        Check.due("9 program 0", x.told(s, 100), 14);
+        Check.due("9 program 0", x.told(s, 100), 0);
         Check.due("9 program 1", x.told(s, 101), 255);
         for (int what : new int[] {-3, 3, 99, 102, Integer.MIN_VALUE, Integer.MAX_VALUE}) {
             Check.thrown("9 what " + what, INDEX, () -> x.told(s, what));
@@ -175,5 +175,9 @@ public final class FontTest {
         Check.due("15 a fault behind it", x.cut(a), -1);
         Check.due("15 by itself alone", x.cut(j), 2);
         Check.due("15 joined no more", x.cut(a), 1);
+        TypeOne y = new TypeOne();
+        Check.sign(y, "J", z, z, z, Check.n(1), Check.n(1), 12, 6);
+        y.encode(1, Check.sign(y, "A", 14));
+        Check.due("15 joined by sign 0", y.cut(1), -1);
     }
 }

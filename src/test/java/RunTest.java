@@ -19,6 +19,7 @@ public final class RunTest {
         counts();
         joining();
         joiningFaults();
+        runsBeginAnew();
         questionsStayAside();
         wrongInputs();
         Check.end();
@@ -200,6 +201,7 @@ public final class RunTest {
         Check.due("13 below stays", x.stack(0), 1);
         Check.due("13 cut off", x.stack(1), -3);
         Check.due("13 the divisor stays", x.stack(2), 2);
+        Check.due("10 one number is left", Check.runOf(n(6), n(2), 12, 12, 6, 14), 1);
         Check.due("10 by 0", Check.runOf(n(1), n(0), 12, 12), -8);
         TypeOne y = new TypeOne();
         Check.due("10 the lowest by -1", Check.runOf(y, 255, 128, 0, 0, 0, n(-1), 12, 12, 11), 0);
@@ -365,6 +367,53 @@ public final class RunTest {
         Check.due("10 2000 bytes of parts", y.run(Check.sign(y, "J", Check.join(own, joins))), 0);
         Check.due("10 a 2001st byte of parts",
             y.run(Check.sign(y, "K", Check.join(own, Check.bytes(12, 0), joins))), -10);
+    }
+
+    /** Nothing of a run is left for the next one but its pieces and its stack. */
+    private static void runsBeginAnew() {
+        TypeOne x = withParts(Check.bytes(9, 14), Check.bytes(9, 14));
+        int dirty = Check.sign(x, "dirty", Check.join(Check.bytes(n(7), n(9), 13, n(1), 4), OPEN,
+            Check.bytes(n(5), n(1), n(3), 12, 16, n(0), 10)));
+        Check.subroutine(x, 0, n(0), n(30), n(40), n(65), n(66), 12, 6);
+        int shelf = Check.sign(x, "shelf", 12, 17);
+        int flex = Check.sign(x, "flex", POINT);
+        int back = Check.sign(x, "back", 11, 2);
+        int point = Check.sign(x, "point", n(0), n(0), 21, 14);
+        int plain = Check.sign(x, "plain", n(0), n(0), n(0), n(65), n(66), 12, 6);
+        int[] signs = {shelf, flex, back, point, plain};
+        int[] due = {-11, -7, 0, 1, 2};
+        for (int i = 0; i < signs.length; i++) {
+            Check.due("10 the dirty one", x.run(dirty), 3);
+            Check.due("11 its shift", x.piece(2, 1), 37);
+            Check.due("10 anew " + i, x.run(signs[i]), due[i]);
+        }
+        Check.row("11 no side, no shift", Check.piece(x, 1), 3, 0, 0, 0, 0, 0, 0);
+        x.run(dirty);
+        x.run(point);
+        Check.row("11 from (0, 0)", Check.piece(x, 0), 0, 0, 0, 0, 0, 0, 0);
+        Check.due("12 the dirty one", x.width(dirty), 9);
+        Check.due("12 anew", x.width(point), 0);
+        Check.due("14 the dirty one", x.joined(dirty, 0), 0);
+        Check.due("14 anew", x.joined(point, 0), -1);
+        partsBeginAnew();
+    }
+
+    /** The second of the joined must not find the shelf, the flex, or the point of the first. */
+    private static void partsBeginAnew() {
+        int[] first = Check.join(Check.bytes(n(7), n(9), 13, n(5), n(1), n(3), 12, 16), OPEN, Check.bytes(14));
+        int[] joins = {n(0), n(0), n(0), n(65), n(66), 12, 6};
+        TypeOne x = withParts(first, Check.bytes(12, 17));
+        Check.due("10 an empty shelf", x.run(Check.sign(x, "J", joins)), -11);
+        TypeOne y = withParts(first, POINT);
+        Check.due("10 no flex", y.run(Check.sign(y, "J", joins)), -7);
+        TypeOne z = withParts(first, Check.bytes(9, 14));
+        Check.due("10 the point", z.run(Check.sign(z, "J", joins)), 1);
+        Check.row("11 the point", Check.piece(z, 0), 3, 0, 0, 0, 0, 0, 0);
+        TypeOne w = withParts(Check.bytes(n(1), n(0), 10), Check.bytes(9, 14));
+        Check.subroutine(w, 0, 11);
+        Check.due("10 a part's bytes end", w.run(Check.sign(w, "J", joins)), -6);
+        TypeOne v = withParts(Check.bytes(n(1), n(2), 11), Check.bytes(9, 14));
+        Check.due("10 an empty stack", v.run(Check.sign(v, "J", joins)), 1);
     }
 
     private static void questionsStayAside() {
