@@ -72,6 +72,8 @@ public final class FontTest {
         Check.thrown("4 65th", UNSUPPORTED, () -> x.sign(0x7e, 1));
         Check.thrown("4 illegal before unsupported", ILLEGAL, () -> x.sign(0x20, 1));
         Check.due("4 program is empty", x.told(63, -2), 0);
+        Check.thrown("9 sign 64", NO_SIGN, () -> x.told(64, -1));
+        Check.due("15 the last of 64", x.cut(63), 63);
     }
 
     private static void code() {
