@@ -213,6 +213,8 @@ public final class FileTest {
         Check.due("3 no name at 3", x.encoded(3), -1);
         Check.due("3 a name at 4", x.encoded(4), 0);
         Check.due("3 no subroutine", x.run(0), -4);
+        Check.sign(x, "A");
+        Check.due("3 no name at 3, though a sign has it again", x.encoded(3), -1);
     }
 
     private static void written() {
