@@ -17,6 +17,7 @@ public final class FileEdgeTest {
         sizesOfPrograms();
         toldAgain();
         whatIsNotAllThere();
+        nothingMendsAFault();
         numbersWritten();
         namesWritten();
         takeIsTheFirst();
@@ -261,6 +262,22 @@ public final class FileEdgeTest {
             }
         }
         Check.due("3 all there", Check.readOf(soFar, whole + "end"), 1);
+    }
+
+    /** What follows a fault is not looked at, though it were all that is wanted. */
+    private static void nothingMendsAFault() {
+        String[] texts = {"/CharStrings /A 40 RD 1234 end ", "/Subrs dup 1 99 RD 1234 /CharStrings end ",
+            "/CharStrings /A 259 RD /B 4 RD 1234 end "};
+        for (String text : texts) {
+            Check.due("3 text [" + text + "]", Check.readOf(CLEAR, text), place(TEXT + text.length()));
+        }
+        Check.due("3 two faults, code first", Check.readOf("/Encoding dup x y z eexec ", signA()), place(14));
+        Check.due("3 two faults, name first", Check.readOf("/Encoding dup 1 y z eexec ", signA()), place(16));
+        Check.due("3 put, then another fault", Check.readOf("/Encoding dup 1 /A z dup x eexec ", signA()), place(19));
+        Check.due("3 leads, then another fault", Check.readOf(CLEAR, "/lenIV x /Subrs dup y"), place(TEXT + 7));
+        Check.due("3 subroutine, then another fault", Check.readOf(CLEAR, "/Subrs dup x y"), place(TEXT + 11));
+        Check.due("3 program, then another fault", Check.readOf(CLEAR, "/CharStrings /A x /B y"), place(TEXT + 16));
+        Check.due("3 clear part before the text", Check.readOf("/Encoding dup x def eexec ", "/lenIV x"), place(14));
     }
 
     private static void numbersWritten() {

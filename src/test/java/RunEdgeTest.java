@@ -59,6 +59,13 @@ public final class RunEdgeTest {
             Check.due("10 255 and third " + low, numberOf(255, 0, 0, low, 0), low << 8);
             Check.due("10 255 and lowest " + low, numberOf(255, 0, 0, 0, low), low);
         }
+        for (int b = 247; b <= 254; b++) {
+            TypeOne x = new TypeOne();
+            Check.due("10 " + b + " without its byte", Check.runOf(x, b), -6);
+            Check.due("13 no number of " + b, x.stack(0), 0);
+            Check.due("10 " + b + " without its byte, stack full",
+                Check.runOf(Check.join(Check.times(24, n(9)), Check.bytes(b))), -6);
+        }
         for (int left = 1; left <= 4; left++) {
             TypeOne x = new TypeOne();
             Check.due("10 255 without " + left, Check.runOf(x, Check.join(Check.bytes(255), Check.times(4 - left, 1))), -6);
